@@ -10,7 +10,6 @@ public final class Epsilonhall {
     private static final int MOST_START = 100;
     private static final int MOST_USES = 20000;
     private static final int MOST_REACHED = 1000000;
-    private static final int BEYOND_REACH = -1;
     private static final int MOST_FRAMES = 16;
     private static final int MOST_BUFFERED = 12;
     private static final int MOST_PUT = 11;
@@ -20,6 +19,7 @@ public final class Epsilonhall {
     private static final int MOST_ROOM = 300;
     private static final long MOST_IN_BASES = 1000000000000L;
     private static final int MOST_PLACES = 64;
+    private static final int MOST_NESTED = 10;
     private static final int MOST_EMBEDDED = 14;
     private static final int COUNTERS = 4;
     private static final int MOST_STEPS = 8;
@@ -32,13 +32,6 @@ public final class Epsilonhall {
     private static final int WALKING_ROOM = 1000;
     // A knot is written with "+w^()*" and at most six digits.
     private static final int MOST_SIGNS = 12 * MOST_SIZE;
-
-    private static final String NO_ORDINAL = "there is no such ordinal";
-    private static final String NO_TERM = "there is no such term";
-    private static final String NO_GAME = "there is no such game";
-    private static final String OUT_OF_RANGE = "the number is out of range";
-    private static final String TOO_GREAT = "the ordinal is too great";
-    private static final String FULL = "there is no room for another one";
 
     private final Ordinal[] ordinals = new Ordinal[MOST_ORDINALS];
     private int ordinalsKept;
@@ -186,28 +179,28 @@ public final class Epsilonhall {
             throws IndexOutOfBoundsException, IllegalArgumentException, UnsupportedOperationException {
         Ordinal start = ordinalAt(ordinal);
         checkRange(n, 0, MOST_START);
-        return reached(walk.slowGrowing(start, n));
+        return reached(walk.goToZero(start, n, 0, 0, MOST_USES - 1), walk.lessened);
     }
 
     public int hardy(int ordinal, int n)
             throws IndexOutOfBoundsException, IllegalArgumentException, UnsupportedOperationException {
         Ordinal start = ordinalAt(ordinal);
         checkRange(n, 0, MOST_START);
-        return reached(walk.hardyGrowing(start, n));
+        return reached(walk.goToZero(start, n, 1, 0, MOST_USES - 1), walk.number);
     }
 
     public int fast(int ordinal, int n)
             throws IndexOutOfBoundsException, IllegalArgumentException, UnsupportedOperationException {
         Ordinal start = ordinalAt(ordinal);
         checkRange(n, 0, MOST_START);
-        return reached(walk.fastGrowing(start, n));
+        return reached(walk.growFast(start, n), walk.number);
     }
 
     public int stepsDown(int ordinal, int n)
             throws IndexOutOfBoundsException, IllegalArgumentException, UnsupportedOperationException {
         Ordinal start = ordinalAt(ordinal);
         checkRange(n, 0, MOST_ROW);
-        return reached(walk.descent(start, n));
+        return reached(walk.goToZero(start, n, 1, 1, MOST_USES), walk.steps);
     }
 
     // ---- games
@@ -227,7 +220,10 @@ public final class Epsilonhall {
             throw new IllegalArgumentException("the buffer tells no worm");
         }
         checkRoomForGame();
-        return begin(new Worm(buffer, buffered));
+        Game made = new Worm(buffer, buffered);
+        made.weighFirst(bench);
+        buffered = 0;
+        return place(made);
     }
 
     public int hydra() throws IllegalArgumentException, IllegalStateException {
@@ -235,13 +231,18 @@ public final class Epsilonhall {
             throw new IllegalArgumentException("the buffer tells no hydra");
         }
         checkRoomForGame();
-        return begin(new Hydra(buffer, buffered));
+        Game made = new Hydra(buffer, buffered);
+        made.weighFirst(bench);
+        buffered = 0;
+        return place(made);
     }
 
     public int bases(int number) throws IllegalArgumentException, IllegalStateException {
         checkRange(number, 0, MOST_COUNT);
         checkRoomForGame();
-        return place(new Bases(number));
+        Game made = new Bases(number);
+        made.weighFirst(bench);
+        return place(made);
     }
 
     public char kindOf(int game) throws IndexOutOfBoundsException {
@@ -312,7 +313,7 @@ public final class Epsilonhall {
             throws IndexOutOfBoundsException, UnsupportedOperationException, IllegalStateException {
         Game asked = gameAt(game);
         if (asked.great) {
-            throw new UnsupportedOperationException(TOO_GREAT);
+            throw new UnsupportedOperationException("the ordinal is too great");
         }
         return keep(asked.ordinal);
     }
@@ -352,7 +353,7 @@ public final class Epsilonhall {
             throw new IllegalArgumentException("a counter is set that is the guard or the other one");
         }
         if (program.steps >= MOST_STEPS) {
-            throw new IllegalStateException(FULL);
+            throw new IllegalStateException("there is no room for another one");
         }
         return program.append(guard, first, to, second, toOther);
     }
@@ -424,7 +425,11 @@ public final class Epsilonhall {
     public boolean isSound() {
         for (int k = 0; k < ordinalsKept; k++) {
             Ordinal asked = ordinalAt(k);
-            if (!asked.exponentsFall() || !rowIsLess(asked) || !isComparedOneWay(asked)) {
+            if (!asked.exponentsFall() || !isComparedOneWay(asked, k)) {
+                return false;
+            }
+            Ordinal told = walk.told(asked, SOUND_ROW);
+            if (asked.used > 0 && Ordinal.comparison(told, -1, asked, -1) >= 0) {
                 return false;
             }
         }
@@ -435,7 +440,7 @@ public final class Epsilonhall {
 
     private static void checkRange(int number, int least, int most) {
         if (number < least || number > most) {
-            throw new IllegalArgumentException(OUT_OF_RANGE);
+            throw new IllegalArgumentException("the number is out of range");
         }
     }
 
@@ -445,7 +450,7 @@ public final class Epsilonhall {
             found = ordinals[ordinal];
         }
         if (found == null) {
-            throw new IndexOutOfBoundsException(NO_ORDINAL);
+            throw new IndexOutOfBoundsException("there is no such ordinal");
         }
         return found;
     }
@@ -453,17 +458,17 @@ public final class Epsilonhall {
     private static int knotOf(Ordinal ordinal, int term) {
         int knot = ordinal.knotOfTerm(term);
         if (knot < 0) {
-            throw new IndexOutOfBoundsException(NO_TERM);
+            throw new IndexOutOfBoundsException("there is no such term");
         }
         return knot;
     }
 
     private int keep(Ordinal made) {
         if (made.isTooGreat()) {
-            throw new UnsupportedOperationException(TOO_GREAT);
+            throw new UnsupportedOperationException("the ordinal is too great");
         }
         if (ordinalsKept < 0 || ordinalsKept >= ordinals.length) {
-            throw new IllegalStateException(FULL);
+            throw new IllegalStateException("there is no room for another one");
         }
         Ordinal kept = new Ordinal(made.used);
         kept.become(made);
@@ -472,8 +477,8 @@ public final class Epsilonhall {
         return ordinalsKept - 1;
     }
 
-    private static int reached(int answer) {
-        if (answer < 0) {
+    private static int reached(boolean arrived, int answer) {
+        if (!arrived || answer > MOST_REACHED) {
             throw new UnsupportedOperationException("the number is beyond reach");
         }
         return answer;
@@ -485,37 +490,27 @@ public final class Epsilonhall {
             found = games[game];
         }
         if (found == null) {
-            throw new IndexOutOfBoundsException(NO_GAME);
+            throw new IndexOutOfBoundsException("there is no such game");
         }
         return found;
     }
 
     private void checkRoomForGame() {
         if (gamesKept < 0 || gamesKept >= games.length) {
-            throw new IllegalStateException(FULL);
+            throw new IllegalStateException("there is no room for another one");
         }
-    }
-
-    private int begin(Game made) {
-        buffered = 0;
-        return place(made);
     }
 
     private int place(Game made) {
         if (gamesKept >= 0 && gamesKept < games.length) {
-            made.weighFirst(bench);
             games[gamesKept] = made;
             gamesKept++;
         }
         return gamesKept - 1;
     }
 
-    private boolean rowIsLess(Ordinal asked) {
-        return asked.used == 0 || Ordinal.comparison(walk.told(asked, SOUND_ROW), -1, asked, -1) < 0;
-    }
-
-    private boolean isComparedOneWay(Ordinal asked) {
-        for (int k = 0; k < ordinalsKept; k++) {
+    private boolean isComparedOneWay(Ordinal asked, int start) {
+        for (int k = start; k < ordinalsKept; k++) {
             Ordinal other = ordinalAt(k);
             int there = Ordinal.comparison(asked, -1, other, -1);
             int back = Ordinal.comparison(other, -1, asked, -1);
@@ -992,22 +987,11 @@ public final class Epsilonhall {
             return here;
         }
 
-        int slowGrowing(Ordinal start, int n) {
-            boolean arrived = goToZero(start, n, 0, 0, MOST_USES - 1);
-            return arrived && lessened <= MOST_REACHED ? lessened : BEYOND_REACH;
-        }
-
-        int hardyGrowing(Ordinal start, int n) {
-            boolean arrived = goToZero(start, n, 1, 0, MOST_USES - 1);
-            return arrived && number <= MOST_REACHED ? number : BEYOND_REACH;
-        }
-
-        int descent(Ordinal start, int n) {
-            return goToZero(start, n, 1, 1, MOST_USES) ? steps : BEYOND_REACH;
-        }
-
-        /** Goes down to 0 with a number that grows by the steps from ordinals with and without a number behind. */
-        private boolean goToZero(Ordinal start, int n, int growth, int limitGrowth, int mostSteps) {
+        /**
+         * Goes down to 0; tells whether that is within reach. The number grows with each step, by one growth from what
+         * is no limit, by another one from a limit.
+         */
+        boolean goToZero(Ordinal start, int n, int growth, int limitGrowth, int mostSteps) {
             here.become(start);
             number = n;
             steps = 0;
@@ -1031,47 +1015,45 @@ public final class Epsilonhall {
             return here.used == 0;
         }
 
-        /** Each frame holds an ordinal and how often its function is still to be used on what is told. */
-        int fastGrowing(Ordinal start, int n) {
+        /**
+         * Tells whether the fast function is within reach; the number is its answer then. Each frame holds an ordinal
+         * and how often its function is still to be used on what is told.
+         */
+        boolean growFast(Ordinal start, int n) {
             here.become(start);
             number = n;
             uses = 0;
             open = 0;
             for (int k = 0; k <= MOST_USES; k++) {
-                boolean told = isToldAtOnce();
+                boolean isLimit = here.levelAt(here.used - 1) > 0;
+                boolean isTold = isToldAtOnce();
                 if (uses > MOST_USES || number > MOST_REACHED) {
-                    return BEYOND_REACH;
+                    return false;
                 }
-                if (told && open == 0) {
-                    return number;
+                if (isTold && open == 0) {
+                    return true;
                 }
-                if (told ? !takeFrame() : !goDeeper()) {
-                    return BEYOND_REACH;
+                if (isTold ? !takeFrame() : !here.goDown(number) || !isLimit && number > 1 && !addFrame()) {
+                    return false;
                 }
             }
-            return BEYOND_REACH;
+            return false;
         }
 
-        /** Uses a sentence; tells the number if it is the one for 0 or 1, or there is nothing to repeat. */
+        /** Uses a sentence; tells whether that is the one for 0, or the number stays, or 1 is repeated. */
         private boolean isToldAtOnce() {
             uses++;
             if (here.used == 0) {
                 number++;
                 return true;
             }
-            boolean isNumber = here.levelAt(here.used - 1) == 0;
-            if (isNumber && here.used == 1 && here.countAt(0) == 1) {
+            if (here.used == 1 && here.levelAt(0) == 0 && here.countAt(0) == 1) {
+                // Each of the repeated uses, of the sentence for 0, makes it 1 more.
                 uses += number;
                 number += number;
                 return true;
             }
-            return isNumber && number == 0;
-        }
-
-        private boolean goDeeper() {
-            boolean isNumber = here.levelAt(here.used - 1) == 0;
-            boolean arrived = here.goDown(number);
-            return arrived && (!isNumber || number <= 1 || addFrame());
+            return number == 0 && here.levelAt(here.used - 1) == 0;
         }
 
         // A frame doubles the uses that those below it need, so that all of them are never open within reach.
@@ -1277,11 +1259,13 @@ public final class Epsilonhall {
                 return false;
             }
             set(used - 1, head - 1);
-            int end = used + (int) added;
-            for (int k = used; k < end; k++) {
-                set(k, numbers[start + k - used]);
+            int end = used;
+            for (int copy = 0; copy <= made; copy++) {
+                for (int k = start; k < end; k++) {
+                    set(used, held(k));
+                    used++;
+                }
             }
-            used = end;
             return true;
         }
 
@@ -1535,8 +1519,8 @@ public final class Epsilonhall {
 
         /** Returns what a number becomes when each base of it becomes 1 more. */
         private static long raised(long number, int base, int depth) {
-            if (base < 2 || depth > MOST_PLACES) {
-                return cappedNumber(Long.MAX_VALUE);
+            if (base < 2 || depth > MOST_NESTED) {
+                return MOST_IN_BASES + 2;
             }
             long total = 0;
             long rest = number;
