@@ -650,6 +650,12 @@ public final class EpsilonhallPromises {
         return x.ordinals() == before && text(x, k).equals(text) ? told : -1;
     }
 
+    /** Goes down by the row for 0 from an ordinal of the size 150, what it tells first being of that size too. */
+    private static int toldFromGreatest(Function function) {
+        Epsilonhall x = new Epsilonhall();
+        return function.tell(x, x.sum(greatest(x), make(x, "w")), 0);
+    }
+
     private static void wrongFunction(int promise, Function function, int most) {
         Epsilonhall x = new Epsilonhall();
         x.number(1);
@@ -691,6 +697,7 @@ public final class EpsilonhallPromises {
         dueThrow(20, UNSUPPORTED, () -> told(slow, "w+19899", 100));
         dueThrow(20, UNSUPPORTED, () -> told(slow, "999999", 0));
         dueThrow(20, UNSUPPORTED, () -> told(slow, "w^(3)", 100));
+        due(20, 0, () -> toldFromGreatest(slow));
         wrongFunction(20, slow, 100);
     }
 
@@ -710,6 +717,7 @@ public final class EpsilonhallPromises {
         dueThrow(21, UNSUPPORTED, () -> told(hardy, "20000", 100));
         dueThrow(21, UNSUPPORTED, () -> told(hardy, "w^(3)", 3));
         dueThrow(21, UNSUPPORTED, () -> told(hardy, "999999", 100));
+        due(21, 0, () -> toldFromGreatest(hardy));
         wrongFunction(21, hardy, 100);
     }
 
@@ -734,6 +742,7 @@ public final class EpsilonhallPromises {
         due(22, 2, () -> told(fast, "w^(w^(w))+w*3+5", 1));
         dueThrow(22, UNSUPPORTED, () -> told(fast, "w+1", 2));
         dueThrow(22, UNSUPPORTED, () -> told(fast, "w^(w^(w))", 100));
+        due(22, 1, () -> toldFromGreatest(fast));
         wrongFunction(22, fast, 100);
     }
 
@@ -1175,7 +1184,8 @@ public final class EpsilonhallPromises {
         int[][] odd = {{-1, 1, 1, 2, 1}, {4, 1, 1, 2, 1}, {0, -2, 1, 2, 1}, {0, 4, 1, 2, 1}, {0, 1, -5, 2, 1},
             {0, 1, 1001, 2, 1}, {0, 1, 1, -2, 1}, {0, 1, 1, 4, 1}, {0, 1, 1, 2, -5}, {0, 1, 1, 2, 1001},
             {0, -1, -5, 2, 1}, {0, -1, 1001, 2, 1}, {0, 1, 1, -1, -5}, {0, 1, 1, -1, 1001}, {0, 0, 1, 2, 1},
-            {0, 1, 1, 0, 1}, {0, 1, 1, 1, 1}, {3, 3, 0, -1, 0}, {LEAST, 1, 1, 2, 1}, {GREATEST, 1, 1, 2, 1},
+            {0, 1, 1, 0, 1}, {0, 1, 1, 1, 1}, {1, 0, 1, 0, 1}, {3, 3, 0, -1, 0}, {LEAST, 1, 1, 2, 1},
+            {GREATEST, 1, 1, 2, 1},
             {0, LEAST, 1, 2, 1}, {0, 1, GREATEST, 2, 1}, {0, 1, LEAST, 2, 1}, {0, 1, 1, GREATEST, 1}};
         for (int[] one : odd) {
             dueThrow(40, ARGUMENT, () -> x.addStep(one[0], one[1], one[2], one[3], one[4]));
