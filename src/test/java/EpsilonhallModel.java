@@ -64,8 +64,9 @@ public final class EpsilonhallModel {
         StringBuilder told = new StringBuilder();
         Draw draw = new Draw(random, house);
         for (int k = 0; k < 512; k++) {
-            String name = draw.name();
-            Object[] arguments = draw.arguments(name);
+            boolean opens = !draw.opening.isEmpty();
+            String name = opens ? draw.openingNames.remove(0) : draw.name();
+            Object[] arguments = opens ? draw.opening.remove(0) : draw.arguments(name);
             String due = answer(house, model.get(name), arguments);
             String got = answer(hall, face.get(name), arguments);
             String call = name + Arrays.toString(arguments);
@@ -163,6 +164,8 @@ public final class EpsilonhallModel {
         private final boolean isReady;
         private final boolean isGreedy;
         private int made;
+        final List<String> openingNames = new ArrayList<>();
+        final List<Object[]> opening = new ArrayList<>();
 
         Draw(Random random, House house) {
             this.random = random;
@@ -178,6 +181,36 @@ public final class EpsilonhallModel {
             wildness = random.nextInt(3) == 0 ? 4 : 30;
             isReady = random.nextInt(8) > 0;
             isGreedy = random.nextInt(3) == 0;
+            if (isGreedy && random.nextBoolean()) {
+                openGreatly();
+            }
+        }
+
+        /** The first calls of some runs make an ordinal of many powers, the last one of which is there often. */
+        private void openGreatly() {
+            int powers = 70 + random.nextInt(6);
+            int sum = open("number", 1);
+            int all = -1;
+            int have = 0;
+            for (int bit = 1; bit <= 64; bit *= 2) {
+                if ((powers & bit) != 0) {
+                    int placed = open("product", open("term", open("number", have + 1), 1), sum);
+                    all = all < 0 ? placed : open("sum", placed, all);
+                    have += bit;
+                }
+                if (bit < 64) {
+                    int power = open("term", open("number", bit), 1 + random.nextInt(2));
+                    sum = open("sum", open("product", power, sum), sum);
+                }
+            }
+            int w = open("term", 0, 1 + random.nextInt(3));
+            open("sum", all, w);
+        }
+
+        private int open(String name, Object... arguments) {
+            openingNames.add(name);
+            opening.add(arguments);
+            return opening.size() - 1;
         }
 
         String name() {
