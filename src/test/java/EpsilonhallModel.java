@@ -118,6 +118,10 @@ public final class EpsilonhallModel {
 
     /** The runs are worth little if they never come to an answer or to an exception of the document. */
     private static void checkThatAllWasSeen(int runs) {
+        if (System.getenv("SHOW") != null) {
+            SEEN.entrySet().stream().sorted(Map.Entry.comparingByKey())
+                    .forEach(e -> System.out.println(e.getKey() + " " + e.getValue()[0]));
+        }
         if (runs < 200) {
             return;
         }
@@ -126,10 +130,6 @@ public final class EpsilonhallModel {
             for (Class<?> thrown : method.getExceptionTypes()) {
                 expectSeen(method.getName() + " throws." + thrown.getSimpleName());
             }
-        }
-        if (System.getenv("SHOW") != null) {
-            SEEN.entrySet().stream().sorted(Map.Entry.comparingByKey())
-                    .forEach(e -> System.out.println(e.getKey() + " " + e.getValue()[0]));
         }
     }
 
